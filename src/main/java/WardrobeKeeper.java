@@ -313,7 +313,7 @@ public final class WardrobeKeeper {
     }
 
     private boolean isThing(int thing) {
-        return isWithin(thing, 0, MAX_THINGS - 1) && (owned >> thing & 1) != 0;
+        return thing >= 0 && thing < MAX_THINGS && (owned >> thing & 1) != 0;
     }
 
     private boolean areThings(int top, int bottom, int coat) {
@@ -340,7 +340,7 @@ public final class WardrobeKeeper {
     }
 
     private boolean isCleanOfKind(int thing, int kind) {
-        return isOfKind(thing, kind) && wearsLeft[thing] > 0;
+        return isThing(thing) && kinds[thing] == kind && wearsLeft[thing] > 0;
     }
 
     private void wearOnce(int thing) {
